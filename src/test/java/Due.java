@@ -1,0 +1,50 @@
+/** Counts the answers of one test and prints those that are not the ones that are due. */
+final class Due {
+    private int asked;
+    private int wrong;
+
+    void due(String call, long want, long got) {
+        asked++;
+        if (got != want) {
+            wrong++;
+            System.out.println(call + " answered " + got + ", due is " + want);
+        }
+    }
+
+    /** A fraction, by the answers for part 0 and part 1. */
+    void due(String call, long upper, long lower, long gotUpper, long gotLower) {
+        due(call + " upper", upper, gotUpper);
+        due(call + " lower", lower, gotLower);
+    }
+
+    void holds(String what, boolean so) {
+        due(what, 1, so ? 1 : 0);
+    }
+
+    void end() {
+        System.out.println(asked + " answers, " + wrong + " not as due");
+        if (wrong != 0 || asked == 0) {
+            System.exit(1);
+        }
+    }
+
+    /** Says a text sign by sign. */
+    static void say(KingsInches x, String text) {
+        for (int i = 0; i < text.length(); i++) {
+            x.say(text.charAt(i));
+        }
+    }
+
+    static int take(KingsInches x, int how, String text) {
+        x.wipe();
+        say(x, text);
+        return x.take(how);
+    }
+
+    /** MEN of a HEIGHT, left as they are. */
+    static int menAt(KingsInches x, int book, int height) {
+        int n = x.men(book, height, 0);
+        x.men(book, height, n);
+        return n;
+    }
+}
