@@ -939,7 +939,6 @@ public final class KingsInches {
     private static final class Undoing {
         private final Humps humps;
         private final long[] parts = new long[HEIGHTS];
-        private final int[] unparted = new int[HEIGHTS];
         int line, middle, misfit;
         int first, last;
 
@@ -977,37 +976,29 @@ public final class KingsInches {
 
         void seekSpan(Book book, int w, int line, int leak, int slack) {
             seekMiddle(book, w, line, leak);
-            first = NONE;
-            last = NONE;
+            first = middle;
+            last = middle;
             for (int m = 0; m < HEIGHTS; m++) {
                 int so = misfitOf(book, m, w, line, leak);
                 if (so != NO && so <= misfit + slack) {
-                    first = first == NONE ? m : first;
-                    last = m;
+                    first = Math.min(first, m);
+                    last = Math.max(last, m);
                 }
             }
         }
 
+        /**
+         * With all of a HUMP on one side of it a line changes nobody who is EXPECTED (or leaves
+         * nobody), so such a one is never better than line 0, which comes first.
+         */
         void seekLine(Book book, int w, int leak) {
-            misfit = NONE;
-            for (int m = 0; m < HEIGHTS; m++) {
-                unparted[m] = misfitOf(book, m, w, 0, leak);
-            }
-            for (int at = 0; at < HEIGHTS; at++) {
-                for (int m = 0; m < HEIGHTS; m++) {
-                    offer(at, m, misfitAcross(book, m, w, at, leak));
+            seekMiddle(book, w, 0, leak);
+            for (int at = 1; at < HEIGHTS; at++) {
+                int to = Math.min(TALLEST, at + w - 1);
+                for (int m = Math.max(0, at - w); m <= to; m++) {
+                    offer(at, m, misfitOf(book, m, w, at, leak));
                 }
             }
-        }
-
-        /** A line that has all the HUMP on one side does not change who is EXPECTED. */
-        private int misfitAcross(Book book, int m, int w, int line, int leak) {
-            boolean allAbove = line <= m - w;
-            boolean allBelow = line > m + w;
-            if (isHeight(m) && (allAbove || allBelow)) {
-                return allBelow && leak == 0 ? NO : unparted[m];
-            }
-            return misfitOf(book, m, w, line, leak);
         }
 
         private void offer(int at, int m, int so) {

@@ -126,7 +126,7 @@ public final class AgreementTest {
         ask(call, numbers);
     }
 
-    /** HEIGHTS near each other ask for more than those far away. */
+    /** HEIGHTS near each other, shares in order, small SLACK, KINDS that there are ask for more. */
     private void comeNear(Call call, int[] numbers) {
         int near = -1;
         for (int i = 0; i < numbers.length; i++) {
@@ -138,6 +138,14 @@ public final class AgreementTest {
                 int least = random.nextInt(101);
                 numbers[i] = 1000 * least + least + random.nextInt(101 - least);
             }
+            if (call.bounds[2 * i + 1] == 999 && random.nextBoolean()) {
+                numbers[i] = random.nextInt(20);
+            }
+        }
+        if (call == Call.SET && numbers[1] == 1) {
+            numbers[2] = 13 + random.nextInt(12);
+        } else if (call == Call.SET && numbers[1] == 2) {
+            numbers[2] = random.nextInt(3);
         }
     }
 

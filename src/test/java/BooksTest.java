@@ -66,6 +66,10 @@ public final class BooksTest {
         DUE.due("set(2, 1, 40)", 14, x.set(2, 1, 40));
         DUE.due("set(2, 2, 2)", 0, x.set(2, 2, 2));
         DUE.due("set(2, 2, 1)", 2, x.set(2, 2, 1));
+        DUE.due("set(3, 2, 1)", 0, x.set(3, 2, 1));
+        DUE.due("set(3, 2, 0)", 1, x.set(3, 2, 0));
+        DUE.due("set(3, 0, 7)", 0, x.set(3, 0, 7));
+        DUE.due("KIND 0 again", 0, x.told(43));
         DUE.due("set(6, 3, 100)", -1, x.set(6, 3, 100));
         DUE.due("set(-1, 0, 0)", -1, x.set(-1, 0, 0));
         DUE.due("set(2, 3, 0)", -2, x.set(2, 3, 0));

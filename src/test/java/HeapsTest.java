@@ -91,6 +91,8 @@ public final class HeapsTest {
         backIs(x, 9, 9, 1, 1);
         backIs(x, 9, 10, 0, 1);
         backIs(x, 20, 20, 0, 1);
+        DUE.due("back, from HEIGHT 0 too", 1, 5, x.back(0, 1, 0, 0, 1, 0), x.back(0, 1, 0, 0, 1, 1));
+        DUE.due("back, from HEIGHT 63 too", 1, 1, x.back(63, 1, 0, 63, 63, 0), x.back(63, 1, 0, 63, 63, 1));
         KingsInches y = withWays(0, 1, 10);
         DUE.due("back, favoured", 1, 3, y.back(10, 1, 10, 10, 9, 0), y.back(10, 1, 10, 10, 9, 1));
         DUE.due("back, not favoured", 2, 3, y.back(10, 1, 10, 10, 10, 0), y.back(10, 1, 10, 10, 10, 1));
