@@ -193,6 +193,8 @@ public final class HumpsTest {
         x.men(3, 0, 2);
         x.men(3, 1, 1);
         foundIs(x, 3, 1, 0, 0, 0);
+        x.men(4, 1, 3);
+        foundIs(x, 4, 1, 1, 0, 0);
         DUE.due("found(6, ..)", -1, x.found(6, 0, 3));
         DUE.due("found(-1, ..)", -1, x.found(-1, 1, 0));
         DUE.due("found w 0", -2, x.found(0, 0, 0));
