@@ -1,5 +1,3 @@
-import java.lang.reflect.InvocationTargetException;
-import java.lang.reflect.Method;
 import java.util.Random;
 
 /** Runs of calls from told seeds, up to 512 on an object, asked of KingsInches and of Plain. */
@@ -31,25 +29,11 @@ public final class AgreementTest {
         final String name;
         final int often;
         final int[] bounds;
-        final Method asked;
-        final Method plain;
 
         Call(String name, int often, int... bounds) {
             this.name = name;
             this.often = often;
             this.bounds = bounds;
-            this.asked = methodOf(KingsInches.class);
-            this.plain = methodOf(Plain.class);
-        }
-
-        private Method methodOf(Class<?> c) {
-            Class<?>[] ints = new Class<?>[bounds.length / 2];
-            java.util.Arrays.fill(ints, int.class);
-            try {
-                return c.getDeclaredMethod(name, ints);
-            } catch (NoSuchMethodException e) {
-                throw new IllegalStateException(e);
-            }
         }
     }
 
@@ -218,18 +202,8 @@ public final class AgreementTest {
     }
 
     private void ask(Call call, int... numbers) {
-        Object[] given = new Object[numbers.length];
-        StringBuilder text = new StringBuilder("run " + run + ", call " + calls + ": " + call.name + "(");
-        for (int i = 0; i < numbers.length; i++) {
-            given[i] = numbers[i];
-            text.append(i == 0 ? "" : ", ").append(numbers[i]);
-        }
+        String text = "run " + run + ", call " + calls + ": " + Calls.text(call.name, numbers);
         calls++;
-        try {
-            long due = ((Number) call.plain.invoke(plain, given)).longValue();
-            DUE.due(text.append(")").toString(), due, ((Number) call.asked.invoke(asked, given)).longValue());
-        } catch (IllegalAccessException | InvocationTargetException e) {
-            throw new IllegalStateException(text.toString(), e);
-        }
+        DUE.due(text, Calls.ask(plain, call.name, numbers), Calls.ask(asked, call.name, numbers));
     }
 }

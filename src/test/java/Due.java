@@ -2,12 +2,18 @@
 final class Due {
     private int asked;
     private int wrong;
+    private String sentence = "";
+
+    /** What is asked from now on stands for this sentence of the document. */
+    void sentence(String words) {
+        sentence = "\"" + words + "\": ";
+    }
 
     void due(String call, long want, long got) {
         asked++;
         if (got != want) {
             wrong++;
-            System.out.println(call + " answered " + got + ", due is " + want);
+            System.out.println(sentence + call + " answered " + got + ", due is " + want);
         }
     }
 
@@ -41,10 +47,26 @@ final class Due {
         return x.take(how);
     }
 
+    /** A new object whose RULE is this text. */
+    static KingsInches withRule(String rule) {
+        KingsInches x = new KingsInches();
+        take(x, 0, rule);
+        return x;
+    }
+
     /** MEN of a HEIGHT, left as they are. */
     static int menAt(KingsInches x, int book, int height) {
         int n = x.men(book, height, 0);
         x.men(book, height, n);
         return n;
+    }
+
+    /** Every HEIGHT of a BOOK with 999 MEN. */
+    static KingsInches withFullBook(int book) {
+        KingsInches x = new KingsInches();
+        for (int height = 0; height < 64; height++) {
+            x.men(book, height, 999);
+        }
+        return x;
     }
 }

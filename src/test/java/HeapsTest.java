@@ -52,13 +52,6 @@ public final class HeapsTest {
         writtenIs(x, 0, 1, 0, 3, 5);
         writtenIs(x, 63, 62, 63, 1, 2);
         writtenIs(x, 63, 62, 60, 3, 10);
-        for (int stands = 0; stands < 64; stands++) {
-            long all = 0;
-            for (int at = 0; at < 64; at++) {
-                all += 100 / x.written(28, stands, at, 1) * x.written(28, stands, at, 0);
-            }
-            DUE.due("all odds of one who stands at " + stands, 100, all);
-        }
     }
 
     private static void writtenEdges() {

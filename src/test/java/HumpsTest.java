@@ -29,7 +29,7 @@ public final class HumpsTest {
         DUE.due("hump(30, 8, 39)", 0, x.hump(30, 8, 39));
         for (int w = 1; w <= 8; w++) {
             long all = 0;
-            for (int h = 0; h < 64; h++) {
+            for (int h = 20; h <= 40; h++) {
                 all += x.hump(30, w, h);
             }
             DUE.due("all of a HUMP of WIDTH " + w, 1L << 2 * w, all);
