@@ -447,6 +447,9 @@ public final class EdgesOfBooksTest {
         Due.take(x, 0, "y=1:5");
         DUE.due("nothing is left of a longer RULE", 0, x.line(0));
         DUE.due("CASES", 1, x.told(1));
+        Due.take(x, 0, "*:12");
+        Due.take(x, 0, "*:1");
+        DUE.due("not a digit of it", 1, x.line(0));
         Due.take(x, 1, "15:1;16:2;14:3");
         Due.take(x, 1, "15:4");
         x.set(0, 1, 14);

@@ -26,6 +26,7 @@ public final class EdgesOfHumpsTest {
         foundIsTheFirstLine();
         foundIsTheFirstMiddle();
         foundAtTheEnds();
+        noMiddleBeyondTheEnds();
         foundByLeakNotByLine();
         foundAlwaysIs();
         DUE.end();
@@ -358,6 +359,25 @@ public final class EdgesOfHumpsTest {
         high.men(0, 62, 1);
         high.men(0, 63, 2);
         foundIs(high, 1, 0, 63, 0);
+    }
+
+    /** What a HUMP of MIDDLE 64 or -1 would leave within 0 to 63, from line 57 or 1 on. */
+    private static void noMiddleBeyondTheEnds() {
+        DUE.sentence("Terms 2: a MIDDLE m (0 to 63): FIT and FOUND look no farther");
+        int[] tail = {999, 699, 381, 159, 49, 10, 1};
+        KingsInches high = Due.withRule("*:57");
+        for (int i = 0; i < tail.length; i++) {
+            high.men(0, 63 - i, tail[i]);
+        }
+        DUE.due("FIT, high", 63, high.fit(0, 8, 0));
+        DUE.due("FOUND's MIDDLE, high", 63, high.found(0, 8, 1));
+        int[] lowTail = {999, 545, 227, 70, 15, 2};
+        KingsInches low = Due.withRule("*:1");
+        for (int i = 0; i < lowTail.length; i++) {
+            low.men(0, 1 + i, lowTail[i]);
+        }
+        DUE.due("FIT, low", 0, low.fit(0, 8, 0));
+        DUE.due("FOUND's MIDDLE, low", 0, low.found(0, 8, 1));
     }
 
     private static void foundByLeakNotByLine() {

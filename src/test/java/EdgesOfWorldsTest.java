@@ -24,6 +24,7 @@ public final class EdgesOfWorldsTest {
         offOfSomeWorlds();
         offBeyondTheLastSeed();
         offIsFar();
+        offByTheLineOfTheBook();
         offLeavesTheBook();
         bestIsTheFirst();
         imageOfNothing();
@@ -262,6 +263,21 @@ public final class EdgesOfWorldsTest {
         // One man of 31: by no MIDDLE is he EXPECTED, but by line 31 and MIDDLE 30.
         DUE.due("FIT", 30, x.off(0, 3, 30, 1, 1, 1, 2));
         DUE.due("FOUND", 0, x.off(0, 3, 30, 1, 1, 1, 3));
+    }
+
+    /** Two men of 30 and one of 29; from line 30 on 29 is not taken, from 31 on nobody. */
+    private static void offByTheLineOfTheBook() {
+        DUE.sentence("Terms 5: OFF: worlds MADE in the BOOK, by its LINE");
+        KingsInches x = Due.withRule("y=1:30;y=2:31");
+        DUE.due("line 0, MEAN", 1, x.off(5, 0, 30, 1, 3, 1, 0));
+        x.set(5, 0, 1);
+        DUE.due("line 30, MEAN", 0, x.off(5, 0, 30, 1, 3, 1, 0));
+        DUE.due("line 30, FIT", 1, x.off(5, 0, 30, 1, 1, 1, 2));
+        x.set(5, 0, 2);
+        DUE.due("line 31, nobody", 63, x.off(5, 0, 30, 1, 1, 1, 0));
+        DUE.due("another BOOK has line 0", 0, x.off(4, 0, 30, 1, 1, 1, 0));
+        x.set(5, 2, 1);
+        DUE.due("KIND 1 has line 0", 0, x.off(5, 0, 30, 1, 1, 1, 0));
     }
 
     private static void offLeavesTheBook() {
