@@ -435,13 +435,13 @@ public final class EdgesOfWorldsTest {
             x.men(book, 63, 1);
             x.set(book, 0, 90 + book);
             x.set(book, 1, 35 + book % 5);
-            x.set(book, 2, (book + 1) % 3);
+            x.set(book, 2, 1 + book % 2);
         }
         for (int book = 0; book < 6; book++) {
             DUE.due("MEN", 101 + book, x.told(10 + book));
             DUE.due("YEAR", 90 + book, x.told(20 + book));
             DUE.due("AGE", 35 + book % 5, x.told(30 + book));
-            DUE.due("KIND", (book + 1) % 3, x.told(40 + book));
+            DUE.due("KIND", 1 + book % 2, x.told(40 + book));
         }
         DUE.due("MEN of a full BOOK", 64 * 999, Due.withFullBook(3).told(13));
     }
