@@ -1,8 +1,18 @@
 /** Counts the answers of one test and prints those that are not the ones that are due. */
 final class Due {
+    private static boolean stopping;
+
     private int asked;
     private int wrong;
     private String sentence = "";
+
+    /**
+     * For a class that is broken on purpose: the first wrong answer ends its test, for what such a
+     * class does later may take long.
+     */
+    static void stopAtTheFirst() {
+        stopping = true;
+    }
 
     /** What is asked from now on stands for this sentence of the document. */
     void sentence(String words) {
@@ -13,7 +23,11 @@ final class Due {
         asked++;
         if (got != want) {
             wrong++;
-            System.out.println(sentence + call + " answered " + got + ", due is " + want);
+            String told = sentence + call + " answered " + got + ", due is " + want;
+            if (stopping) {
+                throw new IllegalStateException(told);
+            }
+            System.out.println(told);
         }
     }
 

@@ -45,7 +45,7 @@ public final class EdgesOfBooksTest {
         DUE.end();
     }
 
-    private static void newBooksAreEmpty() {
+    static void newBooksAreEmpty() {
         DUE.sentence("Promise 1: BOOKS are empty");
         KingsInches x = new KingsInches();
         for (int book = 0; book < 6; book++) {
@@ -57,7 +57,7 @@ public final class EdgesOfBooksTest {
         }
     }
 
-    private static void newEntriesAndWays() {
+    static void newEntriesAndWays() {
         DUE.sentence("Terms 1: YEAR 0, AGE 25, KIND 0 at first");
         KingsInches x = new KingsInches();
         for (int book = 0; book < 6; book++) {
@@ -72,7 +72,7 @@ public final class EdgesOfBooksTest {
         }
     }
 
-    private static void newTextsAndPad() {
+    static void newTextsAndPad() {
         DUE.sentence("Promise 1: no RULE, no GROWTH; the PAD is empty");
         KingsInches x = new KingsInches();
         DUE.due("signs", 0, x.told(0));
@@ -89,18 +89,27 @@ public final class EdgesOfBooksTest {
         DUE.due("the first sign", 1, x.say(42));
     }
 
-    private static void objectsAreTheirOwn() {
+    static void objectsAreTheirOwn() {
         DUE.sentence("Promise 1: a new object shares nothing with another one");
+        KingsInches before = new KingsInches();
         Full.make();
-        KingsInches x = new KingsInches();
-        KingsInches y = new KingsInches();
-        Full.fill(y);
-        DUE.holds("beside a full one",
-                Full.shown(x, Full.AS_IT_IS).equals(Full.shown(new KingsInches(), Full.AS_IT_IS)));
-        DUE.due("its IMAGES", KingsInches.STATE, new KingsInches().restore(0));
+        KingsInches[] both = {before, new KingsInches()};
+        for (KingsInches x : both) {
+            for (int what = 0; what <= 7; what++) {
+                DUE.due("beside a full one, told(" + what + ")", 0, x.told(what));
+            }
+            for (int book = 0; book < 6; book++) {
+                DUE.due("MEN of " + book, 0, x.told(10 + book));
+                DUE.due("YEAR of " + book, 0, x.told(20 + book));
+                DUE.due("AGE of " + book, 25, x.told(30 + book));
+                DUE.due("KIND of " + book, 0, x.told(40 + book));
+            }
+            DUE.due("its IMAGES", KingsInches.STATE, x.restore(0));
+            DUE.due("its IMAGES", KingsInches.STATE, x.restore(1));
+        }
     }
 
-    private static void lastOfAllCalls() {
+    static void lastOfAllCalls() {
         DUE.sentence("An object is used for at most 512 calls");
         KingsInches x = new KingsInches();
         for (int call = 1; call <= 511; call++) {
@@ -109,7 +118,7 @@ public final class EdgesOfBooksTest {
         DUE.due("call 512", 511, x.told(15));
     }
 
-    private static void menOfEachHeight() {
+    static void menOfEachHeight() {
         DUE.sentence("Terms 1: HEIGHTS are 0 to 63; BOOKS 0 to 5");
         KingsInches x = new KingsInches();
         for (int height = 0; height < 64; height++) {
@@ -123,7 +132,7 @@ public final class EdgesOfBooksTest {
         }
     }
 
-    private static void menUpTo999() {
+    static void menUpTo999() {
         DUE.sentence("Terms 1: MEN of each HEIGHT (0 to 999 each)");
         KingsInches x = Due.withFullBook(5);
         DUE.due("all MEN of a full BOOK", 64 * 999, x.told(15));
@@ -135,7 +144,7 @@ public final class EdgesOfBooksTest {
         DUE.due("full again", 64 * 999, x.told(15));
     }
 
-    private static void menAnswersHowManyThereWere() {
+    static void menAnswersHowManyThereWere() {
         DUE.sentence("Promise 2: MEN of a HEIGHT in a BOOK: how many there were");
         KingsInches x = new KingsInches();
         DUE.due("at first", 0, x.men(0, 0, 1));
@@ -157,7 +166,7 @@ public final class EdgesOfBooksTest {
         DUE.due("the same again", most, x.set(0, what, most));
     }
 
-    private static void yearAgeKind() {
+    static void yearAgeKind() {
         DUE.sentence("Terms 1: a YEAR (0 to 99; 0 at first)");
         entry(0, 0, 0, 99);
         DUE.sentence("Terms 1: an AGE (14 to 40; 25 at first)");
@@ -166,7 +175,7 @@ public final class EdgesOfBooksTest {
         entry(2, 0, 0, 2);
     }
 
-    private static void entriesAreTheBooksOwn() {
+    static void entriesAreTheBooksOwn() {
         DUE.sentence("Promise 3: 0 YEAR, 1 AGE, 2 KIND of a BOOK");
         KingsInches x = new KingsInches();
         x.set(5, 0, 99);
@@ -189,7 +198,7 @@ public final class EdgesOfBooksTest {
         DUE.due("the least was", 0, x.way(which, 1));
     }
 
-    private static void tenthsAndQuarters() {
+    static void tenthsAndQuarters() {
         DUE.sentence("Terms 2: LEAK is tenths (0 to 9; 0 at first)");
         way(0, 9);
         DUE.sentence("Terms 3: HEAP (tenths, 0 to 9; 0 at first)");
@@ -202,7 +211,7 @@ public final class EdgesOfBooksTest {
         way(4, 10);
     }
 
-    private static void waysAreTheirOwn() {
+    static void waysAreTheirOwn() {
         DUE.sentence("Promise 4: 0 LEAK, 1 HEAP, 2 FAVOUR, 3 its tenths, 4 LIED");
         for (int which = 0; which < 5; which++) {
             KingsInches x = new KingsInches();
@@ -213,7 +222,7 @@ public final class EdgesOfBooksTest {
         }
     }
 
-    private static void everySign() {
+    static void everySign() {
         DUE.sentence("Terms 1: signs (codes 33 to 126)");
         KingsInches x = new KingsInches();
         for (int sign = 33; sign <= 126; sign++) {
@@ -227,7 +236,7 @@ public final class EdgesOfBooksTest {
         DUE.due("none came", 0, x.told(0));
     }
 
-    private static void sixtySigns() {
+    static void sixtySigns() {
         DUE.sentence("Promise 5: A sign more: how many. FULL");
         KingsInches x = new KingsInches();
         for (int n = 1; n <= 60; n++) {
@@ -242,7 +251,7 @@ public final class EdgesOfBooksTest {
         DUE.due("to the last", 42, x.line(0));
     }
 
-    private static void roomForSignsAgain() {
+    static void roomForSignsAgain() {
         DUE.sentence("Promise 6, 8: signs go, so that others may come");
         KingsInches x = new KingsInches();
         Due.say(x, LONGEST_RULE);
@@ -256,7 +265,7 @@ public final class EdgesOfBooksTest {
         DUE.due("none of the old ones comes back", 1, x.fault(0));
     }
 
-    private static void wipeTellsHowMany() {
+    static void wipeTellsHowMany() {
         DUE.sentence("Promise 6: Signs go: how many there were");
         KingsInches x = new KingsInches();
         DUE.due("of none", 0, x.wipe());
@@ -268,14 +277,24 @@ public final class EdgesOfBooksTest {
         DUE.due("of none again", 0, x.wipe());
     }
 
-    private static void wipeLeavesTexts() {
+    static void wipeLeavesTexts() {
         DUE.sentence("Promise 6: Signs go, and nothing else");
         KingsInches x = Full.make();
         x.wipe();
-        KingsInches y = Full.make();
-        Due.take(y, 0, "y<9:20;*:30");
-        DUE.holds("RULE, GROWTH, BOOKS, ways stay",
-                Full.shown(x, Full.AS_IT_IS).equals(Full.shown(y, Full.AS_IT_IS)));
+        DUE.due("signs", 0, x.told(0));
+        int[] told = {2, 2, 1, 4, 2, 6, 7};
+        for (int what = 1; what <= 7; what++) {
+            DUE.due("told(" + what + ")", told[what - 1], x.told(what));
+        }
+        DUE.due("LINE of YEAR 8", 20, x.line(0));
+        DUE.due("GROWN of AGE 14", 4, x.grown(3, 0, 0));
+        DUE.due("MEN", 9, x.told(10));
+        DUE.due("YEAR", 8, x.told(20));
+        DUE.due("AGE", 14, x.told(33));
+        DUE.due("KIND", 2, x.told(42));
+        DUE.due("an IMAGE", 1, x.restore(0));
+        DUE.due("its YEAR", 50, x.told(20));
+        DUE.due("its ITEMS", 2, x.told(2));
     }
 
     /** Behind this beginning, of all signs just these can stand. */
@@ -293,7 +312,7 @@ public final class EdgesOfBooksTest {
         }
     }
 
-    private static void signsOfARule() {
+    static void signsOfARule() {
         DUE.sentence("Terms 1: one CASE or more, with a ; between two: * or TESTS with a & between two,"
                 + " :, 1 or 2 digits");
         mayCome(0, "", "*ya");
@@ -313,7 +332,7 @@ public final class EdgesOfBooksTest {
         mayCome(0, "*:9;", "*ya");
     }
 
-    private static void signsOfGrowth() {
+    static void signsOfGrowth() {
         DUE.sentence("Terms 1: one ITEM or more, with a ; between two: 1 or 2 digits (an AGE), :, a digit");
         mayCome(1, "", DIGITS);
         mayCome(1, "0", DIGITS + ":");
@@ -330,7 +349,7 @@ public final class EdgesOfBooksTest {
         DUE.due("fault(" + how + ") of " + text, want, x.fault(how));
     }
 
-    private static void oneOrTwoDigits() {
+    static void oneOrTwoDigits() {
         DUE.sentence("Terms 1: 1 or 2 digits");
         faultIs(0, "*:0", NONE);
         faultIs(0, "*:00", NONE);
@@ -346,7 +365,7 @@ public final class EdgesOfBooksTest {
         faultIs(1, "14:10", 4);
     }
 
-    private static void moreMustCome() {
+    static void moreMustCome() {
         DUE.sentence("Terms 1: THE FAULT: the number of signs, if more must come");
         String rule = "y<1&a>23:4;*:56";
         String growth = "1:2;34:5";
@@ -369,7 +388,7 @@ public final class EdgesOfBooksTest {
         return false;
     }
 
-    private static void theFirstFaultCounts() {
+    static void theFirstFaultCounts() {
         DUE.sentence("Terms 1: THE FAULT: the place (from 0 on) of the first sign that can not stand there");
         faultIs(0, "!*:1", 0);
         faultIs(0, "!!!", 0);
@@ -381,7 +400,7 @@ public final class EdgesOfBooksTest {
         faultIs(1, LONGEST_GROWTH.substring(0, 59) + "!", 59);
     }
 
-    private static void faultOfSixtySigns() {
+    static void faultOfSixtySigns() {
         DUE.sentence("Terms 1: a text of up to 60 signs");
         faultIs(0, LONGEST_RULE, NONE);
         faultIs(1, LONGEST_GROWTH, NONE);
@@ -391,7 +410,7 @@ public final class EdgesOfBooksTest {
         faultIs(0, LONGEST_GROWTH, 0);
     }
 
-    private static void faultChangesNothing() {
+    static void faultChangesNothing() {
         DUE.sentence("Promise 7: fault tells and changes nothing");
         KingsInches x = new KingsInches();
         Due.say(x, "*:1");
@@ -403,7 +422,7 @@ public final class EdgesOfBooksTest {
         DUE.due("no RULE yet", 0, x.told(1));
     }
 
-    private static void takeCountsPieces() {
+    static void takeCountsPieces() {
         DUE.sentence("Promise 8: CASES, ITEMS");
         KingsInches x = new KingsInches();
         DUE.due("one CASE", 1, Due.take(x, 0, "a=1&y=2&a=3:4"));
@@ -423,7 +442,7 @@ public final class EdgesOfBooksTest {
         DUE.due("fifteen CASES", 15, Due.take(x, 0, "*:1;".repeat(14) + "*:12"));
     }
 
-    private static void takenSignsAreGone() {
+    static void takenSignsAreGone() {
         DUE.sentence("Promise 8: (they are gone then)");
         KingsInches x = new KingsInches();
         Due.say(x, "*:7");
@@ -440,7 +459,7 @@ public final class EdgesOfBooksTest {
         DUE.due("no second time", KingsInches.NO, x.take(1));
     }
 
-    private static void takenTextReplacesTheOther() {
+    static void takenTextReplacesTheOther() {
         DUE.sentence("Promise 8: The signs are THE RULE, GROWTH");
         KingsInches x = new KingsInches();
         Due.take(x, 0, LONGEST_RULE);
@@ -457,7 +476,7 @@ public final class EdgesOfBooksTest {
         DUE.due("ITEMS", 1, x.told(2));
     }
 
-    private static void faultsAreNotTaken() {
+    static void faultsAreNotTaken() {
         DUE.sentence("Promise 8: NO: there is a FAULT");
         KingsInches x = new KingsInches();
         Due.take(x, 0, "*:7");
@@ -482,7 +501,7 @@ public final class EdgesOfBooksTest {
         DUE.due("line by " + rule + ", YEAR " + year + ", AGE " + age, want, x.line(0));
     }
 
-    private static void lineAtItsTests() {
+    static void lineAtItsTests() {
         DUE.sentence("Terms 1: y the YEAR, or a the AGE; <, > or =");
         lineIs("y<50:9", 49, 14, 9);
         lineIs("y<50:9", 50, 14, 0);
@@ -517,7 +536,7 @@ public final class EdgesOfBooksTest {
         lineIs("y=2&a=20&y<2:9", 1, 20, 0);
     }
 
-    private static void lineOfTheFirstCase() {
+    static void lineOfTheFirstCase() {
         DUE.sentence("Terms 1: what the first CASE that fits says");
         lineIs("*:1;*:2", 0, 25, 1);
         lineIs("y=0:0;*:2", 0, 25, 0);
@@ -528,7 +547,7 @@ public final class EdgesOfBooksTest {
         lineIs("y=1&a=25:1;a=25:2", 0, 25, 2);
     }
 
-    private static void lineAtMost63() {
+    static void lineAtMost63() {
         DUE.sentence("Terms 1: LINE of a BOOK (63 at most)");
         lineIs("*:0", 0, 25, 0);
         lineIs("*:1", 0, 25, 1);
@@ -539,14 +558,14 @@ public final class EdgesOfBooksTest {
         lineIs("*:09", 0, 25, 9);
     }
 
-    private static void lineOfNoCase() {
+    static void lineOfNoCase() {
         DUE.sentence("Terms 1: LINE 0, if none does");
         DUE.due("no RULE", 0, new KingsInches().line(5));
         lineIs("y=1:9;a=1:8", 0, 25, 0);
         lineIs("y>0:63", 0, 25, 0);
     }
 
-    private static void lineByKind() {
+    static void lineByKind() {
         DUE.sentence("Terms 1: LINE 0, if its KIND is 1 or 2");
         KingsInches x = Due.withRule("*:63");
         for (int book = 0; book < 6; book++) {

@@ -44,7 +44,7 @@ public final class EdgesOfHeapsTest {
                 x.written(line, stands, at, 0), x.written(line, stands, at, 1));
     }
 
-    private static void nearestWholeInch() {
+    static void nearestWholeInch() {
         DUE.sentence("Terms 3: HEAP: written at the nearest one");
         KingsInches x = with(9, 0, 0);
         int[][] nearest = {{1, 0}, {3, 4}, {5, 4}, {7, 8}, {57, 56}, {59, 60}, {61, 60}};
@@ -56,7 +56,7 @@ public final class EdgesOfHeapsTest {
         writtenIs(x, 0, 3, 0, 0, 1);
     }
 
-    private static void ofTwoAsNear() {
+    static void ofTwoAsNear() {
         DUE.sentence("Terms 3: HEAP: of two as near the lower one");
         KingsInches x = with(9, 0, 0);
         for (int stands = 2; stands < 63; stands += 4) {
@@ -67,7 +67,7 @@ public final class EdgesOfHeapsTest {
         }
     }
 
-    private static void heldTo63() {
+    static void heldTo63() {
         DUE.sentence("Terms 3: HEAP: 63 at most");
         KingsInches x = with(9, 0, 0);
         writtenIs(x, 0, 63, 63, 1, 1);
@@ -77,7 +77,7 @@ public final class EdgesOfHeapsTest {
         writtenIs(x, 0, 62, 62, 1, 10);
     }
 
-    private static void wholeInchesStay() {
+    static void wholeInchesStay() {
         DUE.sentence("Terms 3: HEAP: of men who stand at no whole inch");
         KingsInches x = with(9, 0, 0);
         for (int stands = 0; stands < 64; stands += 4) {
@@ -86,7 +86,7 @@ public final class EdgesOfHeapsTest {
         }
     }
 
-    private static void heapOf0And9() {
+    static void heapOf0And9() {
         DUE.sentence("Terms 3: HEAP (tenths, 0 to 9)");
         KingsInches x = new KingsInches();
         writtenIs(x, 0, 5, 5, 1, 1);
@@ -99,7 +99,7 @@ public final class EdgesOfHeapsTest {
         writtenIs(x, 0, 5, 4, 9, 10);
     }
 
-    private static void favourUpToItsQuarters() {
+    static void favourUpToItsQuarters() {
         DUE.sentence("Terms 3: FAVOUR: below the line by no more than FAVOUR");
         for (int favour = 0; favour <= 4; favour++) {
             KingsInches x = with(0, favour, 10);
@@ -111,7 +111,7 @@ public final class EdgesOfHeapsTest {
         }
     }
 
-    private static void favourOnlyBelowTheLine() {
+    static void favourOnlyBelowTheLine() {
         DUE.sentence("Terms 3: FAVOUR: of men who stand below the line");
         KingsInches x = with(0, 4, 10);
         writtenIs(x, 41, 41, 41, 1, 1);
@@ -121,7 +121,7 @@ public final class EdgesOfHeapsTest {
         writtenIs(x, 41, 40, 41, 1, 1);
     }
 
-    private static void favourTenths() {
+    static void favourTenths() {
         DUE.sentence("Terms 3: FAVOUR: its tenths (0 to 10)");
         int[][] lowest = {{0, 1}, {1, 10}, {1, 5}, {3, 10}, {2, 5}, {1, 2}, {3, 5}, {7, 10}, {4, 5}, {9, 10}, {1, 1}};
         for (int tenths = 0; tenths <= 10; tenths++) {
@@ -131,7 +131,7 @@ public final class EdgesOfHeapsTest {
         }
     }
 
-    private static void favourAheadOfHeap() {
+    static void favourAheadOfHeap() {
         DUE.sentence("Terms 3: FAVOUR: ahead of HEAP; nobody who is favoured is heaped");
         KingsInches some = with(9, 2, 5);
         writtenIs(some, 43, 42, 43, 1, 2);
@@ -145,7 +145,7 @@ public final class EdgesOfHeapsTest {
         writtenIs(all, 43, 43, 43, 1, 10);
     }
 
-    private static void favourAtAWholeInch() {
+    static void favourAtAWholeInch() {
         DUE.sentence("Terms 3: WRITTEN: at the line by FAVOUR and by HEAP, where that is the nearest one");
         KingsInches x = with(9, 1, 5);
         writtenIs(x, 44, 43, 44, 19, 20);
@@ -154,7 +154,7 @@ public final class EdgesOfHeapsTest {
         writtenIs(x, 45, 44, 44, 1, 2);
     }
 
-    private static void lineZero() {
+    static void lineZero() {
         DUE.sentence("Terms 3: WRITTEN (line 0: no FAVOUR)");
         KingsInches x = with(0, 4, 10);
         for (int stands = 0; stands <= 5; stands++) {
@@ -169,7 +169,7 @@ public final class EdgesOfHeapsTest {
         writtenIs(x, 5, 0, 5, 0, 1);
     }
 
-    private static void lineSixtyThree() {
+    static void lineSixtyThree() {
         DUE.sentence("Terms 3: WRITTEN at the last line");
         KingsInches x = with(9, 4, 10);
         writtenIs(x, 63, 63, 63, 1, 1);
@@ -179,7 +179,7 @@ public final class EdgesOfHeapsTest {
         writtenIs(x, 63, 58, 56, 9, 10);
     }
 
-    private static void allOddsTogether() {
+    static void allOddsTogether() {
         DUE.sentence("Terms 3: WRITTEN: the odds that one who stands at a HEIGHT is written at another one");
         for (int line = 0; line < 64; line += 21) {
             for (int stands = 0; stands < 64; stands++) {
@@ -199,7 +199,7 @@ public final class EdgesOfHeapsTest {
     }
 
     /** HUMP 1, 2, 1 of 9, 10, 11; half of them are written at 8, 8, 12. */
-    private static void backToWhereHeStands() {
+    static void backToWhereHeStands() {
         DUE.sentence("Terms 3: BACK: the odds that one who is WRITTEN at a HEIGHT stands at another one");
         KingsInches x = with(5, 0, 0);
         backIs(x, 10, 0, 8, 9, 1, 3);
@@ -210,7 +210,7 @@ public final class EdgesOfHeapsTest {
         backIs(x, 10, 0, 10, 9, 0, 1);
     }
 
-    private static void backOfNobody() {
+    static void backOfNobody() {
         DUE.sentence("Terms: 0 by 1 for nothing: BACK, where nobody is written");
         KingsInches x = with(5, 0, 0);
         backIs(x, 10, 0, 7, 7, 0, 1);
@@ -222,7 +222,7 @@ public final class EdgesOfHeapsTest {
         backIs(y, 10, 10, 9, 9, 0, 1);
     }
 
-    private static void backBeyondTheEnds() {
+    static void backBeyondTheEnds() {
         DUE.sentence("Terms 2: those outside 0 to 63 are not counted, in BACK neither");
         KingsInches x = with(5, 0, 0);
         backIs(x, 0, 0, 0, 0, 4, 5);
@@ -232,7 +232,7 @@ public final class EdgesOfHeapsTest {
         backIs(x, 63, 0, 60, 63, 0, 1);
     }
 
-    private static void backByFavour() {
+    static void backByFavour() {
         DUE.sentence("Terms 3: BACK by FAVOUR, just as far as that goes");
         KingsInches x = with(0, 1, 10);
         backIs(x, 10, 10, 10, 9, 1, 3);
@@ -250,7 +250,7 @@ public final class EdgesOfHeapsTest {
         backIs(x, 10, 10, 10, 9, 1, 3);
     }
 
-    private static void pileOfNobody() {
+    static void pileOfNobody() {
         DUE.sentence("Terms: 0 by 1 for nothing: PILE of a BOOK without MEN");
         KingsInches x = new KingsInches();
         for (int book = 0; book < 6; book++) {
@@ -262,7 +262,7 @@ public final class EdgesOfHeapsTest {
         DUE.due("pile", 0, 1, x.pile(0, 0), x.pile(0, 1));
     }
 
-    private static void pileAtWholeInches() {
+    static void pileAtWholeInches() {
         DUE.sentence("Terms 3: PILE: MEN at whole inches times 4, by all its MEN");
         for (int height = 0; height < 64; height++) {
             KingsInches x = new KingsInches();
@@ -287,7 +287,7 @@ public final class EdgesOfHeapsTest {
         return x;
     }
 
-    private static void grownBelow23() {
+    static void grownBelow23() {
         DUE.sentence("Terms 3: GROWN: the sum for AGES from its own on, below 23");
         KingsInches x = withGrowth("14:1;15:2;21:3;22:4;23:9;24:9;40:9;13:9");
         grownIs(x, 14, 10, 10, 1);
@@ -300,7 +300,7 @@ public final class EdgesOfHeapsTest {
         grownIs(x, 40, 0, 0, 1);
     }
 
-    private static void grownByTheFirstItem() {
+    static void grownByTheFirstItem() {
         DUE.sentence("Terms 1: of two ITEMS of one AGE the first counts");
         grownIs(withGrowth("20:3;20:4"), 20, 3, 3, 1);
         grownIs(withGrowth("20:0;20:4"), 20, 0, 0, 1);
@@ -309,7 +309,7 @@ public final class EdgesOfHeapsTest {
         grownIs(withGrowth("20:9"), 20, 9, 9, 1);
     }
 
-    private static void grownWithoutItems() {
+    static void grownWithoutItems() {
         DUE.sentence("Terms 1: GROWTH: none at first");
         grownIs(new KingsInches(), 14, 0, 0, 1);
         DUE.sentence("Terms 1: an AGE without an ITEM");
@@ -318,7 +318,7 @@ public final class EdgesOfHeapsTest {
     }
 
     /** GROWN of 20 is 3, of 19, the AGE ahead, 8. */
-    private static void liedTenths() {
+    static void liedTenths() {
         DUE.sentence("Terms 3: LIED (tenths, 0 to 10): the mean of GROWN of its AGE and of the AGE ahead");
         KingsInches x = withGrowth("19:5;20:3");
         int[][] means = {{3, 1}, {7, 2}, {4, 1}, {9, 2}, {5, 1}, {11, 2}, {6, 1}, {13, 2}, {7, 1}, {15, 2}, {8, 1}};
@@ -330,7 +330,7 @@ public final class EdgesOfHeapsTest {
         grownIs(x, 20, 3, 8, 1);
     }
 
-    private static void liedAtTheEnds() {
+    static void liedAtTheEnds() {
         DUE.sentence("Terms 3: LIED at AGE 23 and 24: the AGE ahead is still below 23, or not");
         KingsInches x = withGrowth("22:4;23:9;13:6;14:1");
         x.way(4, 10);
@@ -351,7 +351,7 @@ public final class EdgesOfHeapsTest {
         DUE.due("right, w " + w, upper, lower, x.right(0, w, 0), x.right(0, w, 1));
     }
 
-    private static void rightIsBoth() {
+    static void rightIsBoth() {
         DUE.sentence("Terms 3: RIGHT of a BOOK by a WIDTH: FIT's MIDDLE and that mean");
         rightIs(new KingsInches(), 1, 0, 1);
         KingsInches x = withGrowth("19:5;20:3");

@@ -32,7 +32,7 @@ public final class EdgesOfHumpsTest {
         DUE.end();
     }
 
-    private static void humpEnds() {
+    static void humpEnds() {
         DUE.sentence("Terms 2: none, if that is not 0 to 2w");
         KingsInches x = new KingsInches();
         for (int w = 1; w <= 8; w++) {
@@ -47,7 +47,7 @@ public final class EdgesOfHumpsTest {
         DUE.due("far below", 0, x.hump(63, 8, 0));
     }
 
-    private static void humpOfEachWidth() {
+    static void humpOfEachWidth() {
         DUE.sentence("Terms 2: of 4 to the power w men");
         int[] middle = {2, 6, 20, 70, 252, 924, 3432, 12870};
         KingsInches x = new KingsInches();
@@ -61,7 +61,7 @@ public final class EdgesOfHumpsTest {
         }
     }
 
-    private static void humpBeyondTheEnds() {
+    static void humpBeyondTheEnds() {
         DUE.sentence("Terms 2: those outside 0 to 63 are not there");
         KingsInches x = new KingsInches();
         int[] half = {12870, 11440, 8008, 4368, 1820, 560, 120, 16, 1, 0};
@@ -79,7 +79,7 @@ public final class EdgesOfHumpsTest {
                 x.upper(m, w, line, what, 0), x.upper(m, w, line, what, 1));
     }
 
-    private static void upperFromTheLineOn() {
+    static void upperFromTheLineOn() {
         DUE.sentence("Terms 2: UPPER of it from a line on: men of that HEIGHT or more");
         upperIs(10, 1, 8, 0, 1, 1);
         upperIs(10, 1, 9, 0, 1, 1);
@@ -92,7 +92,7 @@ public final class EdgesOfHumpsTest {
         upperIs(10, 1, 12, 1, 0, 1);
     }
 
-    private static void upperOfAll() {
+    static void upperOfAll() {
         DUE.sentence("Terms 2: their part of all of the HUMP, in lowest terms");
         upperIs(40, 8, 0, 0, 1, 1);
         upperIs(40, 8, 32, 0, 1, 1);
@@ -102,7 +102,7 @@ public final class EdgesOfHumpsTest {
         upperIs(40, 8, 63, 0, 0, 1);
     }
 
-    private static void upperOfNobody() {
+    static void upperOfNobody() {
         DUE.sentence("Promise 11: the mean (1; 0 by 1 of nobody)");
         upperIs(40, 8, 48, 1, 48, 1);
         upperIs(40, 8, 49, 1, 0, 1);
@@ -114,7 +114,7 @@ public final class EdgesOfHumpsTest {
     }
 
     /** Two men of 0 and one of 1; one man of 62 and two of 63. */
-    private static void upperBeyondTheEnds() {
+    static void upperBeyondTheEnds() {
         DUE.sentence("Terms 2: those outside 0 to 63 are not there, nor counted");
         upperIs(0, 1, 0, 0, 1, 1);
         upperIs(0, 1, 1, 0, 1, 3);
@@ -132,7 +132,7 @@ public final class EdgesOfHumpsTest {
         return x;
     }
 
-    private static void partsAtTheLine() {
+    static void partsAtTheLine() {
         DUE.sentence("Terms 2: men times 10 (at the line or above), times LEAK (below)");
         KingsInches x = menOf10(4);
         DUE.due("line 0: 1, 2, 1", 4, x.misfit(0, 10, 1, 0));
@@ -141,7 +141,7 @@ public final class EdgesOfHumpsTest {
         DUE.due("line 11: 0, 0, 4", 8, x.misfit(0, 10, 1, 11));
     }
 
-    private static void expectedIsCut() {
+    static void expectedIsCut() {
         DUE.sentence("Terms 2: EXPECTED: all MEN of the BOOK times that part by all parts together, cut");
         DUE.due("one man: 0, 0, 0", 1, menOf10(1).misfit(0, 10, 1, 0));
         DUE.due("two men: 0, 1, 0", 1, menOf10(2).misfit(0, 10, 1, 0));
@@ -156,7 +156,7 @@ public final class EdgesOfHumpsTest {
         DUE.due("MEN beside the HUMP are far from 0", 2, x.misfit(0, 10, 1, 0));
     }
 
-    private static void leakBelowTheLine() {
+    static void leakBelowTheLine() {
         DUE.sentence("Terms 2: LEAK (0 to 9): men below the line are taken for so many tenths");
         KingsInches x = menOf10(37);
         DUE.due("LEAK 0: 0, 0, 37", 74, x.misfit(0, 10, 1, 11));
@@ -168,7 +168,7 @@ public final class EdgesOfHumpsTest {
         DUE.due("none below the line: 9, 18, 9", 37, x.misfit(0, 10, 1, 9));
     }
 
-    private static void misfitWithoutParts() {
+    static void misfitWithoutParts() {
         DUE.sentence("Terms 2: NO, if all parts are 0");
         KingsInches x = menOf10(4);
         DUE.due("the greatest at the line", 8, x.misfit(0, 10, 1, 11));
@@ -184,7 +184,7 @@ public final class EdgesOfHumpsTest {
         DUE.due("without it again", NO, x.misfit(0, 10, 1, 12));
     }
 
-    private static void misfitBeyondTheEnds() {
+    static void misfitBeyondTheEnds() {
         DUE.sentence("Terms 2: those outside 0 to 63 are not counted, in MISFIT neither");
         KingsInches x = new KingsInches();
         x.men(0, 0, 2);
@@ -196,7 +196,7 @@ public final class EdgesOfHumpsTest {
         DUE.due("MIDDLE 63, line 63", 2, x.misfit(1, 63, 1, 63));
     }
 
-    private static void misfitOfNobodyAndOfAll() {
+    static void misfitOfNobodyAndOfAll() {
         DUE.sentence("Terms 2: the sum of how far each HEIGHT's MEN are from it");
         KingsInches none = new KingsInches();
         DUE.due("an empty BOOK", 0, none.misfit(0, 30, 8, 0));
@@ -208,7 +208,7 @@ public final class EdgesOfHumpsTest {
         DUE.due("parts 1, 2, 1 of 9 tenths", 14985 + 30969 + 14985 + 61 * 999, full.misfit(0, 30, 1, 63));
     }
 
-    private static void fitIsTheFirst() {
+    static void fitIsTheFirst() {
         DUE.sentence("Terms 2: FIT: the MIDDLE by which MISFIT is least, the first such");
         KingsInches x = menOf10(2);
         x.men(0, 11, 2);
@@ -226,7 +226,7 @@ public final class EdgesOfHumpsTest {
         DUE.due("its MISFIT", 0, x.fit(2, 1, 1));
     }
 
-    private static void fitByItsLine() {
+    static void fitByItsLine() {
         DUE.sentence("Terms 2: FIT: MISFIT (with its LINE)");
         KingsInches x = menOf10(4);
         DUE.due("line 0", 10, x.fit(0, 1, 0));
@@ -243,7 +243,7 @@ public final class EdgesOfHumpsTest {
         DUE.due("KIND 2 has line 0", 4, x.fit(0, 1, 1));
     }
 
-    private static void fitAlwaysIs() {
+    static void fitAlwaysIs() {
         DUE.sentence("Promise 13: (There always is one.)");
         KingsInches x = Due.withRule("*:63");
         x.men(0, 0, 5);
@@ -260,7 +260,7 @@ public final class EdgesOfHumpsTest {
     }
 
     /** Four men of 10: MISFIT 4 by 10, 6 by 9 and 11, 7 by 0 and 63, else 8. */
-    private static void spanBySlack() {
+    static void spanBySlack() {
         DUE.sentence("Terms 2: SPAN: MISFIT no more than that and the SLACK");
         KingsInches x = menOf10(4);
         int[] far = {8, 9, 10, 11, 12, 0, 1, 62, 63};
@@ -278,7 +278,7 @@ public final class EdgesOfHumpsTest {
     }
 
     /** 999 men of 10 and one of 40: MISFIT 1000 by 10, 1500 by 9 and 11, 1998 near 40, 1999 by 0 and 63. */
-    private static void spanBySlackOf999() {
+    static void spanBySlackOf999() {
         DUE.sentence("Terms 2: SPAN by a SLACK (0 to 999)");
         KingsInches x = menOf10(999);
         x.men(0, 40, 1);
@@ -292,7 +292,7 @@ public final class EdgesOfHumpsTest {
         DUE.due("SLACK -1", KingsInches.OUTSIDE, x.span(0, 1, -1, 0));
     }
 
-    private static void spanWithoutMisfit() {
+    static void spanWithoutMisfit() {
         DUE.sentence("Terms 2: SPAN: a MIDDLE without a MISFIT is not of it");
         KingsInches x = menOf10(4);
         Due.take(x, 0, "*:10");
@@ -315,7 +315,7 @@ public final class EdgesOfHumpsTest {
         DUE.due("MISFIT, w " + w, misfit, x.found(0, w, 2));
     }
 
-    private static void foundIsTheFirstLine() {
+    static void foundIsTheFirstLine() {
         DUE.sentence("Terms 2: FOUND: by which it is least, the first line");
         KingsInches x = new KingsInches();
         x.men(0, 11, 1);
@@ -332,7 +332,7 @@ public final class EdgesOfHumpsTest {
         foundIs(y, 1, 30, 30, 0);
     }
 
-    private static void foundIsTheFirstMiddle() {
+    static void foundIsTheFirstMiddle() {
         DUE.sentence("Terms 2: FOUND: the first line, then MIDDLE");
         KingsInches x = new KingsInches();
         x.men(0, 10, 2);
@@ -342,7 +342,7 @@ public final class EdgesOfHumpsTest {
         foundIs(x, 1, 12, 11, 4);
     }
 
-    private static void foundAtTheEnds() {
+    static void foundAtTheEnds() {
         DUE.sentence("Terms 2: FOUND: the line (0 to 63) and MIDDLE");
         KingsInches top = new KingsInches();
         top.men(0, 63, 5);
@@ -362,7 +362,7 @@ public final class EdgesOfHumpsTest {
     }
 
     /** What a HUMP of MIDDLE 64 or -1 would leave within 0 to 63, from line 57 or 1 on. */
-    private static void noMiddleBeyondTheEnds() {
+    static void noMiddleBeyondTheEnds() {
         DUE.sentence("Terms 2: a MIDDLE m (0 to 63): FIT and FOUND look no farther");
         int[] tail = {999, 699, 381, 159, 49, 10, 1};
         KingsInches high = Due.withRule("*:57");
@@ -380,7 +380,7 @@ public final class EdgesOfHumpsTest {
         DUE.due("FOUND's MIDDLE, low", 0, low.found(0, 8, 1));
     }
 
-    private static void foundByLeakNotByLine() {
+    static void foundByLeakNotByLine() {
         DUE.sentence("Terms 2: FOUND: the line itself is found, whatever the LINE of the BOOK is");
         KingsInches x = menOf10(4);
         foundIs(x, 1, 10, 9, 0);
@@ -394,7 +394,7 @@ public final class EdgesOfHumpsTest {
         foundIs(x, 1, 10, 10, 3);
     }
 
-    private static void foundAlwaysIs() {
+    static void foundAlwaysIs() {
         DUE.sentence("Promise 15: (There always is one.)");
         KingsInches none = new KingsInches();
         KingsInches full = Due.withFullBook(0);

@@ -6,6 +6,7 @@ public final class EdgesOfSortsTest {
     private static final long LOST_STATE = LOST - 3, LOST_NO = LOST - 5;
 
     public static void main(String[] args) {
+        sortsOfOneWidth();
         mixFromTheLineOn();
         mixByShares();
         mixBeyondTheEnds();
@@ -42,7 +43,17 @@ public final class EdgesOfSortsTest {
                 x.mix(one, two, 1, line, g, 0), x.mix(one, two, 1, line, g, 1));
     }
 
-    private static void mixFromTheLineOn() {
+    /** Of WIDTH 2 a HUMP is 1, 4, 6, 4, 1: of SORT 0 four men of 11 and one of 12 are of line 11 or more. */
+    static void sortsOfOneWidth() {
+        DUE.sentence("Terms 4: Two SORTS of men: MIDDLES of both, one WIDTH");
+        KingsInches x = new KingsInches();
+        DUE.due("line 0", 15, 1, x.mix(10, 20, 2, 0, 50, 0), x.mix(10, 20, 2, 0, 50, 1));
+        DUE.due("line 11", 376, 21, x.mix(10, 20, 2, 11, 50, 0), x.mix(10, 20, 2, 11, 50, 1));
+        DUE.due("line 11, turned", 376, 21, x.mix(20, 10, 2, 11, 50, 0), x.mix(20, 10, 2, 11, 50, 1));
+        DUE.due("one SORT twice", 10, 1, x.mix(10, 10, 2, 0, 30, 0), x.mix(10, 10, 2, 0, 30, 1));
+    }
+
+    static void mixFromTheLineOn() {
         DUE.sentence("Terms 4: MIX: the mean of those of the line or more");
         mixIs(10, 20, 9, 50, 15, 1);
         mixIs(10, 20, 10, 50, 111, 7);
@@ -54,7 +65,7 @@ public final class EdgesOfSortsTest {
         mixIs(62, 10, 63, 50, 63, 1);
     }
 
-    private static void mixByShares() {
+    static void mixByShares() {
         DUE.sentence("Terms 4: MIX by a share g (0 to 100): SORT 0 counting g times, SORT 1 100 less g times");
         mixIs(10, 20, 0, 0, 20, 1);
         mixIs(10, 20, 0, 1, 199, 10);
@@ -63,9 +74,12 @@ public final class EdgesOfSortsTest {
         mixIs(10, 20, 0, 100, 10, 1);
         mixIs(10, 20, 0, -1, LOST_OUTSIDE, LOST_OUTSIDE);
         mixIs(10, 20, 0, 101, LOST_OUTSIDE, LOST_OUTSIDE);
+        // One man of 11 and four whose mean is 20: men count by shares, in the lower number too.
+        mixIs(10, 20, 11, 25, 251, 13);
+        mixIs(10, 20, 11, 75, 113, 7);
     }
 
-    private static void mixBeyondTheEnds() {
+    static void mixBeyondTheEnds() {
         DUE.sentence("Terms 4: those outside 0 to 63 are not made up for");
         mixIs(0, 20, 0, 50, 81, 7);
         mixIs(20, 0, 0, 50, 81, 7);
@@ -75,7 +89,7 @@ public final class EdgesOfSortsTest {
         mixIs(63, 63, 0, 0, 188, 3);
     }
 
-    private static void mixOfNobody() {
+    static void mixOfNobody() {
         DUE.sentence("Promise 21: NO: nobody is of the line or more");
         mixIs(10, 20, 11, 100, 11, 1);
         mixIs(10, 20, 12, 100, LOST_NO, LOST_NO);
@@ -95,7 +109,7 @@ public final class EdgesOfSortsTest {
                 x.fall(10, 20, 1, line, g, h, 0), x.fall(10, 20, 1, line, g, h, 1));
     }
 
-    private static void fallBothWays() {
+    static void fallBothWays() {
         DUE.sentence("Promise 22: a fraction, perhaps below 0");
         fallIs(0, 0, 100, 10, 1);
         fallIs(0, 100, 0, -10, 1);
@@ -113,7 +127,7 @@ public final class EdgesOfSortsTest {
         fallIs(0, 0, 101, LOST_OUTSIDE, LOST_OUTSIDE);
     }
 
-    private static void fallWithoutAMix() {
+    static void fallWithoutAMix() {
         DUE.sentence("Promise 22: NO: of either");
         fallIs(12, 100, 0, LOST_NO, LOST_NO);
         fallIs(12, 0, 100, LOST_NO, LOST_NO);
@@ -135,7 +149,7 @@ public final class EdgesOfSortsTest {
                 x.alone(one, two, 1, line, shares, then, end, 1));
     }
 
-    private static void sharesAsTold() {
+    static void sharesAsTold() {
         DUE.sentence("Promise 23: shares that may be are told as 1000 times the least, and the greatest");
         aloneIs(0, 0, 0, 0, 0, 1);
         aloneIs(0, 0, 100100, 0, 10, 1);
@@ -149,7 +163,7 @@ public final class EdgesOfSortsTest {
         aloneIs(0, 1, 0, 0, -1, 10);
     }
 
-    private static void sharesNotAsTold() {
+    static void sharesNotAsTold() {
         DUE.sentence("Promise 23: 0 to 100 each, the least no more than the greatest");
         int[] taken = {0, 100, 1001, 1100, 50050, 50051, 99099, 99100, 100100};
         int[] refused = {-1, 101, 999, 1000, 2001, 50049, 50101, 99098, 100099, 100101, 101101, 101100, 100000,
@@ -165,7 +179,7 @@ public final class EdgesOfSortsTest {
         }
     }
 
-    private static void aloneOfOneShareEach() {
+    static void aloneOfOneShareEach() {
         DUE.sentence("Promise 23: of one share each both ends are that FALL");
         KingsInches x = new KingsInches();
         for (int end = 0; end <= 1; end++) {
@@ -174,7 +188,7 @@ public final class EdgesOfSortsTest {
         }
     }
 
-    private static void aloneEnds() {
+    static void aloneEnds() {
         DUE.sentence("Promise 23: the least (end = 0), the greatest FALL (1)");
         aloneIs(0, 25050, 50075, 0, 0, 1);
         aloneIs(0, 25050, 50075, 1, 5, 1);
@@ -191,7 +205,7 @@ public final class EdgesOfSortsTest {
         aloneIs(20, 20, 0, 100, 100, 1, 0, 1);
     }
 
-    private static void aloneWithoutAMix() {
+    static void aloneWithoutAMix() {
         DUE.sentence("Promise 23: NO: some MIX is not");
         for (int end = 0; end <= 1; end++) {
             aloneIs(12, 99099, 99099, end, 0, 1);
@@ -215,7 +229,7 @@ public final class EdgesOfSortsTest {
         DUE.due("mean of " + book, upper, lower, x.mean(book, 0), x.mean(book, 1));
     }
 
-    private static void meanOfNobody() {
+    static void meanOfNobody() {
         DUE.sentence("Terms: 0 by 1 for nothing: MEAN of a BOOK without MEN");
         KingsInches x = new KingsInches();
         for (int book = 0; book < 6; book++) {
@@ -226,7 +240,7 @@ public final class EdgesOfSortsTest {
         meanIs(x, 0, 0, 1);
     }
 
-    private static void meanOfAll() {
+    static void meanOfAll() {
         DUE.sentence("Promise 24: MEAN, in lowest terms");
         KingsInches x = new KingsInches();
         x.men(0, 0, 999);
@@ -241,7 +255,7 @@ public final class EdgesOfSortsTest {
         meanIs(Due.withFullBook(5), 5, 63, 2);
     }
 
-    private static void modeOfNobody() {
+    static void modeOfNobody() {
         DUE.sentence("Promise 25: NONE: no MEN");
         KingsInches x = new KingsInches();
         for (int book = 0; book < 6; book++) {
@@ -255,7 +269,7 @@ public final class EdgesOfSortsTest {
         DUE.due("mode(-1)", KingsInches.UNKNOWN, x.mode(-1));
     }
 
-    private static void modeIsTheFirst() {
+    static void modeIsTheFirst() {
         DUE.sentence("Terms 4: MODE (the HEIGHT with most MEN, the first such)");
         KingsInches x = Due.withFullBook(5);
         DUE.due("all alike", 0, x.mode(5));
@@ -279,7 +293,7 @@ public final class EdgesOfSortsTest {
                 x.about(1, quarters, end, 0), x.about(1, quarters, end, 1));
     }
 
-    private static void aboutHeldTo0() {
+    static void aboutHeldTo0() {
         DUE.sentence("Terms 4: ABOUT: so much less (held to 0 .. 63)");
         aboutIs(0, 0, 0, 0);
         aboutIs(0, 1, 0, 0);
@@ -291,7 +305,7 @@ public final class EdgesOfSortsTest {
         aboutIs(63, 8, 0, 55);
     }
 
-    private static void aboutHeldTo63() {
+    static void aboutHeldTo63() {
         DUE.sentence("Terms 4: ABOUT: or more (held to 0 .. 63)");
         aboutIs(63, 0, 1, 63);
         aboutIs(63, 1, 1, 63);
@@ -303,7 +317,7 @@ public final class EdgesOfSortsTest {
         aboutIs(0, 8, 1, 8);
     }
 
-    private static void aboutByQuarters() {
+    static void aboutByQuarters() {
         DUE.sentence("Terms 4: ABOUT by so many QUARTERS (0 to 8): each may be so much less or more");
         KingsInches x = new KingsInches();
         x.set(1, 2, 2);
@@ -318,7 +332,7 @@ public final class EdgesOfSortsTest {
         DUE.due("-1", LOST_OUTSIDE, x.about(1, -1, 0, 0));
     }
 
-    private static void aboutOfNobody() {
+    static void aboutOfNobody() {
         DUE.sentence("Terms: 0 by 1 for nothing: ABOUT of a BOOK without MEN");
         KingsInches x = new KingsInches();
         x.set(5, 2, 2);
@@ -327,7 +341,7 @@ public final class EdgesOfSortsTest {
         }
     }
 
-    private static void aboutByKind() {
+    static void aboutByKind() {
         DUE.sentence("Promise 26: STATE: its KIND is not 2");
         KingsInches x = new KingsInches();
         x.men(0, 10, 1);
@@ -342,7 +356,7 @@ public final class EdgesOfSortsTest {
         DUE.due("UNKNOWN goes ahead", LOST_UNKNOWN, x.about(6, 9, 0, 0));
     }
 
-    private static void besideBelow0() {
+    static void besideBelow0() {
         DUE.sentence("Promise 27: BESIDE: a fraction, perhaps below 0");
         KingsInches x = new KingsInches();
         x.set(0, 2, 1);
@@ -359,7 +373,7 @@ public final class EdgesOfSortsTest {
         DUE.due("beside, in lowest terms", -2, 3, x.beside(0, 1, 1, 0), x.beside(0, 1, 1, 1));
     }
 
-    private static void besideByItsState() {
+    static void besideByItsState() {
         DUE.sentence("Promise 27: STATE: the first one's KIND is not 1, or it has no MEN");
         KingsInches x = new KingsInches();
         x.men(0, 10, 1);
@@ -375,7 +389,7 @@ public final class EdgesOfSortsTest {
         DUE.due("the other one's KIND is 0, without MEN", 1, x.beside(0, 1, 1, 1));
     }
 
-    private static void besideItself() {
+    static void besideItself() {
         DUE.sentence("Terms 4: BESIDE: FIT's MIDDLE of another one, by that one's LINE");
         KingsInches x = Due.withRule("*:10");
         x.set(0, 2, 1);
@@ -386,7 +400,7 @@ public final class EdgesOfSortsTest {
     }
 
     /** Four MEN of one HEIGHT: with SLACK 2 the SPAN goes from one below to one above. */
-    private static void shorterAtTheEnds() {
+    static void shorterAtTheEnds() {
         DUE.sentence("Terms 4: SHORTER: 2: the second one's SPAN lies below; 0: it does not begin below; 1: else");
         int[] heights = {13, 12, 11, 10, 9, 8, 7, 6};
         int[] answers = {0, 0, 0, 0, 1, 1, 2, 2};
@@ -405,7 +419,7 @@ public final class EdgesOfSortsTest {
         DUE.due("it begins above 0", 0, y.shorter(1, 0, 1, 0));
     }
 
-    private static void shorterOfTheSame() {
+    static void shorterOfTheSame() {
         DUE.sentence("Terms 4: SHORTER of a BOOK and itself, of two without MEN");
         KingsInches x = new KingsInches();
         x.men(0, 10, 4);
@@ -418,7 +432,7 @@ public final class EdgesOfSortsTest {
         DUE.due("up from MIDDLE 0", 0, x.shorter(3, 0, 1, 0));
     }
 
-    private static void shorterByItsLine() {
+    static void shorterByItsLine() {
         DUE.sentence("Terms 4: SHORTER: each SPAN by its own BOOK's LINE");
         KingsInches x = Due.withRule("y=1:10");
         x.men(0, 10, 4);
@@ -431,7 +445,7 @@ public final class EdgesOfSortsTest {
         DUE.due("KIND 1 has no LINE", 0, x.shorter(0, 1, 1, 0));
     }
 
-    private static void refusalsOfBoth() {
+    static void refusalsOfBoth() {
         DUE.sentence("Promise 27, 28: UNKNOWN, if there is no such BOOK, first or second");
         KingsInches x = new KingsInches();
         x.set(0, 2, 1);

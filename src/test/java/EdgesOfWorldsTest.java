@@ -58,7 +58,7 @@ public final class EdgesOfWorldsTest {
         DUE.due("told(10)", all, x.told(10));
     }
 
-    private static void seedsAndDraws() {
+    static void seedsAndDraws() {
         DUE.sentence("Terms 5: a seed (0 to 9999); the seed becomes itself times 75 and 74, left over by 65537");
         KingsInches x = new KingsInches();
         bookIs(x, x.make(0, 0, 28, 1, 1), 28, 1);
@@ -73,7 +73,7 @@ public final class EdgesOfWorldsTest {
     }
 
     /** Seeds whose first DRAW left over by 16 is 0, 1, 4, 5, 10, 11, 14, 15: the first and last of each HEIGHT. */
-    private static void numbersAmongTheHump() {
+    static void numbersAmongTheHump() {
         DUE.sentence("Terms 5: a DRAW left over by 4 to the power w is his number, the least HEIGHTS first");
         int[] seeds = {2, 5, 14, 1, 0, 3, 12, 15};
         int[] heights = {28, 29, 29, 30, 30, 31, 31, 32};
@@ -84,7 +84,7 @@ public final class EdgesOfWorldsTest {
     }
 
     /** First DRAWS 2516, 64838, 65399; the third ones of seeds 3160 and 6321, the second men's: 65535, 65534. */
-    private static void numbersOfTheWidestHump() {
+    static void numbersOfTheWidestHump() {
         DUE.sentence("Terms 5: his number among the HUMP's men, of WIDTH 8");
         KingsInches x = new KingsInches();
         bookIs(x, x.make(0, 7897, 32, 8, 1), 28, 1);
@@ -94,7 +94,7 @@ public final class EdgesOfWorldsTest {
         bookIs(x, x.make(0, 6321, 32, 8, 2), 31, 1, 39, 1);
     }
 
-    private static void whoIsOutside() {
+    static void whoIsOutside() {
         DUE.sentence("Terms 5: who is outside is passed over");
         KingsInches x = new KingsInches();
         bookIs(x, x.make(0, 2, 0, 1, 1));
@@ -107,7 +107,7 @@ public final class EdgesOfWorldsTest {
         bookIs(x, x.make(0, 3, 63, 1, 3), 63, 1);
     }
 
-    private static void menGo() {
+    static void menGo() {
         DUE.sentence("Terms 5: MADE in a BOOK: its MEN go");
         KingsInches x = Due.withFullBook(0);
         x.men(1, 5, 999);
@@ -120,7 +120,7 @@ public final class EdgesOfWorldsTest {
         DUE.due("mode", KingsInches.NONE, x.mode(1));
     }
 
-    private static void oneTo200() {
+    static void oneTo200() {
         DUE.sentence("Terms 5: n times (1 to 200)");
         KingsInches x = new KingsInches();
         DUE.due("n 0", KingsInches.OUTSIDE, x.make(0, 0, 30, 8, 0));
@@ -135,7 +135,7 @@ public final class EdgesOfWorldsTest {
         bookIs(x, x.make(0, 0, m, 1, n), heightsAndMen);
     }
 
-    private static void notBelowTheLine() {
+    static void notBelowTheLine() {
         DUE.sentence("Terms 5: if he stands below the LINE of the BOOK");
         madeIs(with(0, 4, 4, 10, "*:30"), 30, 1, 30, 1);
         madeIs(with(0, 5, 4, 10, "*:30"), 30, 1, 28, 1);
@@ -143,7 +143,7 @@ public final class EdgesOfWorldsTest {
         madeIs(with(0, 0, 4, 10, "*:29"), 30, 1, 30, 1);
     }
 
-    private static void leakDraw() {
+    static void leakDraw() {
         DUE.sentence("Terms 5: else a DRAW left over by 10 not less than LEAK: not taken");
         madeIs(with(0, 0, 0, 0, "*:31"), 30, 1);
         madeIs(with(4, 0, 0, 0, "*:31"), 30, 1);
@@ -151,7 +151,7 @@ public final class EdgesOfWorldsTest {
         madeIs(with(9, 0, 0, 0, "*:31"), 30, 1, 30, 1);
     }
 
-    private static void favourDraw() {
+    static void favourDraw() {
         DUE.sentence("Terms 5: a DRAW left over by 10 less than FAVOUR's tenths: written at the line");
         madeIs(with(0, 0, 1, 0, "*:31"), 30, 1);
         madeIs(with(0, 0, 1, 4, "*:31"), 30, 1);
@@ -163,7 +163,7 @@ public final class EdgesOfWorldsTest {
         madeIs(with(3, 1, 1, 4, "*:31"), 30, 1, 28, 1);
     }
 
-    private static void noFartherBelow() {
+    static void noFartherBelow() {
         DUE.sentence("Terms 5: and he is no farther below than FAVOUR");
         for (int favour = 1; favour <= 4; favour++) {
             String[] lines = {"*:30", "*:31", "*:32", "*:33", "*:34", "*:35"};
@@ -177,20 +177,20 @@ public final class EdgesOfWorldsTest {
         madeIs(with(5, 0, 0, 10, "*:31"), 30, 1, 30, 1);
     }
 
-    private static void notTakenNoHeap() {
+    static void notTakenNoHeap() {
         DUE.sentence("Terms 5: DRAWS are made just where they are told: none of HEAP for who is not taken");
         madeIs(with(1, 1, 0, 0, "*:31"), 30, 2, 29, 1);
         madeIs(with(1, 2, 0, 0, "*:31"), 30, 2, 28, 1);
     }
 
-    private static void favouredNoHeap() {
+    static void favouredNoHeap() {
         DUE.sentence("Terms 5: then (not favoured), if at no whole inch");
         madeIs(with(0, 9, 1, 5, "*:31"), 30, 1, 31, 1);
         madeIs(with(1, 1, 1, 5, "*:31"), 30, 2, 31, 1, 29, 1);
         madeIs(with(1, 2, 1, 5, "*:31"), 30, 2, 31, 1, 28, 1);
     }
 
-    private static void heapDraw() {
+    static void heapDraw() {
         DUE.sentence("Terms 5: a DRAW left over by 10 less than HEAP: written at the nearest one");
         madeIs(with(0, 0, 0, 0, ""), 30, 1, 30, 1);
         madeIs(with(0, 4, 0, 0, ""), 30, 1, 30, 1);
@@ -203,7 +203,7 @@ public final class EdgesOfWorldsTest {
         madeIs(with(0, 3, 0, 0, ""), 28, 2, 28, 2, 27, 0);
     }
 
-    private static void heapAtTheTop() {
+    static void heapAtTheTop() {
         DUE.sentence("Terms 3: the nearest one: of two as near the lower one; 63 at most");
         madeIs(with(0, 9, 0, 0, ""), 63, 1, 63, 1);
         madeIs(with(0, 9, 0, 0, ""), 63, 2, 63, 1, 60, 1);
@@ -211,7 +211,7 @@ public final class EdgesOfWorldsTest {
         madeIs(with(0, 9, 0, 0, ""), 1, 1, 0, 1);
     }
 
-    private static void makeByKind() {
+    static void makeByKind() {
         DUE.sentence("Terms 1: LINE 0, if its KIND is 1 or 2: of worlds too");
         for (int kind = 0; kind <= 2; kind++) {
             KingsInches x = with(0, 0, 4, 10, "*:31");
@@ -221,7 +221,7 @@ public final class EdgesOfWorldsTest {
     }
 
     /** Worlds of one man each: HEIGHTS 0, 0, none, 1, 0, 0, none, 1. */
-    private static void offOfSomeWorlds() {
+    static void offOfSomeWorlds() {
         DUE.sentence("Terms 5: as many as told, 1 to 8; a world without MEN counts 63");
         int[] byMean = {0, 0, 63, 64, 64, 64, 127, 128};
         int[] byFit = {0, 0, 63, 63, 63, 63, 126, 126};
@@ -242,7 +242,7 @@ public final class EdgesOfWorldsTest {
         }
     }
 
-    private static void offBeyondTheLastSeed() {
+    static void offBeyondTheLastSeed() {
         DUE.sentence("Terms 5: worlds MADE from seeds s, s and 1, ...");
         KingsInches x = new KingsInches();
         DUE.due("of 9999: one below", 1, x.off(0, 9999, 30, 1, 1, 1, 0));
@@ -250,7 +250,7 @@ public final class EdgesOfWorldsTest {
         DUE.due("of 9999, outside, and 10000", 64, x.off(0, 9999, 0, 1, 1, 2, 0));
     }
 
-    private static void offIsFar() {
+    static void offIsFar() {
         DUE.sentence("Terms 5: how far they are from m, below or above");
         KingsInches x = new KingsInches();
         DUE.due("one below", 1, x.off(0, 2, 30, 1, 1, 1, 1));
@@ -266,7 +266,7 @@ public final class EdgesOfWorldsTest {
     }
 
     /** Two men of 30 and one of 29; from line 30 on 29 is not taken, from 31 on nobody. */
-    private static void offByTheLineOfTheBook() {
+    static void offByTheLineOfTheBook() {
         DUE.sentence("Terms 5: OFF: worlds MADE in the BOOK, by its LINE");
         KingsInches x = Due.withRule("y=1:30;y=2:31");
         DUE.due("line 0, MEAN", 1, x.off(5, 0, 30, 1, 3, 1, 0));
@@ -280,7 +280,7 @@ public final class EdgesOfWorldsTest {
         DUE.due("KIND 1 has line 0", 0, x.off(5, 0, 30, 1, 1, 1, 0));
     }
 
-    private static void offLeavesTheBook() {
+    static void offLeavesTheBook() {
         DUE.sentence("Terms 5: the BOOK is as it was then");
         String full = Full.shown(Full.make(), Full.AS_IT_IS);
         for (int book = 0; book < 6; book++) {
@@ -298,7 +298,7 @@ public final class EdgesOfWorldsTest {
         DUE.due("a full BOOK", 64 * 999, crowd.told(10));
     }
 
-    private static void bestIsTheFirst() {
+    static void bestIsTheFirst() {
         DUE.sentence("Terms 5: BEST: the rule with the least OFF, the first such");
         KingsInches x = new KingsInches();
         int[][] offs = {{0, 1, 0, 0, 30, 1}, {0, 3, 1, 0, 1, 1}, {0, 5, 1, 1, 0, 0}, {3, 1, 1, 1, 30, 0}};
@@ -317,7 +317,7 @@ public final class EdgesOfWorldsTest {
         DUE.due("worlds without MEN: all are as good", 0, x.best(0, 0, 20, 1, 200, 8));
     }
 
-    private static void imageOfNothing() {
+    static void imageOfNothing() {
         DUE.sentence("Promise 32: an IMAGE of a new object");
         for (int image = 0; image <= 1; image++) {
             KingsInches x = new KingsInches();
@@ -332,7 +332,7 @@ public final class EdgesOfWorldsTest {
         }
     }
 
-    private static void allButSigns() {
+    static void allButSigns() {
         DUE.sentence("Promise 32, 33: All but signs is kept; it is as it was when it was kept");
         KingsInches x = Full.make();
         x.image(0);
@@ -361,7 +361,7 @@ public final class EdgesOfWorldsTest {
         DUE.due("the sign that can not stand there", 0, y.fault(0));
     }
 
-    private static void imagesAreTwo() {
+    static void imagesAreTwo() {
         DUE.sentence("Promise 32: an IMAGE (0, 1)");
         KingsInches x = new KingsInches();
         x.set(0, 0, 1);
@@ -379,7 +379,7 @@ public final class EdgesOfWorldsTest {
         DUE.due("IMAGE 1, kept after IMAGE 0", 2, x.told(20));
     }
 
-    private static void imageKeptAgain() {
+    static void imageKeptAgain() {
         DUE.sentence("Promise 32: an IMAGE that is kept again");
         KingsInches x = new KingsInches();
         x.men(0, 5, 1);
@@ -394,7 +394,7 @@ public final class EdgesOfWorldsTest {
         DUE.due("the other one is as it was", 1, x.told(10));
     }
 
-    private static void restoreKeepsTheImage() {
+    static void restoreKeepsTheImage() {
         DUE.sentence("Promise 33: It is as it was when it was kept, each time");
         KingsInches x = new KingsInches();
         x.men(0, 5, 1);
@@ -411,7 +411,7 @@ public final class EdgesOfWorldsTest {
         }
     }
 
-    private static void toldOfTexts() {
+    static void toldOfTexts() {
         DUE.sentence("Promise 34: 0 signs, 1 CASES, 2 ITEMS, 3 to 7 what way() sets");
         KingsInches x = new KingsInches();
         Due.take(x, 0, "*:1;*:2;*:3");
@@ -427,7 +427,7 @@ public final class EdgesOfWorldsTest {
         }
     }
 
-    private static void toldOfBooks() {
+    static void toldOfBooks() {
         DUE.sentence("Promise 34: 10 to 15 MEN of BOOKS, 20 to 25 YEARS, 30 to 35 AGES, 40 to 45 KINDS");
         KingsInches x = new KingsInches();
         for (int book = 0; book < 6; book++) {
@@ -446,7 +446,7 @@ public final class EdgesOfWorldsTest {
         DUE.due("MEN of a full BOOK", 64 * 999, Due.withFullBook(3).told(13));
     }
 
-    private static void toldBetween() {
+    static void toldBetween() {
         DUE.sentence("Promise 34: OUTSIDE");
         KingsInches x = new KingsInches();
         for (int what = -60; what <= 160; what++) {

@@ -7,6 +7,7 @@ import java.lang.reflect.Modifier;
 import java.nio.file.Files;
 import java.nio.file.Path;
 import java.util.Arrays;
+import java.util.Map;
 import java.util.Set;
 import java.util.TreeSet;
 import java.util.regex.Matcher;
@@ -15,13 +16,15 @@ import java.util.regex.Pattern;
 /** The document's face, and those rules of LANGUAGE.md that can be seen from outside. */
 public final class LanguageTest {
     private static final Path SOURCE = Path.of("src/main/java/KingsInches.java");
+    private static final Path DOCUMENT = Path.of("../shared/DOC.md");
     private static final String[] FACE = {
         "int men 3", "int set 3", "int way 2", "int say 1", "int wipe 0", "int fault 1", "int take 1",
         "int line 1", "int hump 3", "long upper 5", "int misfit 4", "int fit 3", "int span 4", "int found 3",
         "long written 4", "long back 6", "long pile 2", "long grown 3", "long right 3", "long mix 6",
         "long fall 7", "long alone 8", "long mean 2", "int mode 1", "long about 4", "long beside 4",
         "int shorter 4", "int make 5", "int off 7", "int best 6", "int image 1", "int restore 1", "int told 1"};
-    private static final String[] CONSTANTS = {"FULL", "LOST", "NO", "NONE", "OUTSIDE", "STATE", "UNKNOWN"};
+    private static final Map<String, Long> CONSTANTS = Map.of("UNKNOWN", -1L, "OUTSIDE", -2L, "STATE", -3L,
+            "FULL", -4L, "NO", -5L, "NONE", -6L, "LOST", -1000000000000000000L);
     private static final String[] NEVER = {"throw", "throws", "try", "catch", "finally", "synchronized",
         "assert", "protected", "package", "volatile", "native", "Object", "Random", "Thread"};
     private static final Set<String> IMPORTS = Set.of("java.util.Arrays", "java.util.ArrayList", "java.util.List",
@@ -35,7 +38,45 @@ public final class LanguageTest {
         face();
         classesInside();
         source(Files.readString(SOURCE));
+        asTheDocumentHasIt(Files.readString(SOURCE), Files.readString(DOCUMENT));
+        headings(Files.readString(SOURCE), Files.readString(DOCUMENT));
         DUE.end();
+    }
+
+    /** Every line of the document's face, with the names of the parameters that stand there, and no other. */
+    private static void asTheDocumentHasIt(String text, String document) {
+        Set<String> due = publicLines(document.replaceAll("\\);", ") {"));
+        DUE.due("lines of the document's face", FACE.length + 3, due.size());
+        for (String line : due) {
+            DUE.holds("the face has: " + line, publicLines(text).contains(line));
+        }
+        DUE.due("lines of the face", due.size(), publicLines(text).size());
+    }
+
+    private static Set<String> publicLines(String text) {
+        Set<String> lines = new TreeSet<>();
+        Matcher line = Pattern.compile("(?m)^    public .*$").matcher(text);
+        while (line.find()) {
+            lines.add(line.group());
+        }
+        return lines;
+    }
+
+    /** "Ahead of the calls .. the interface says: ---- 1 books, texts." */
+    private static void headings(String text, String document) {
+        Matcher said = Pattern.compile("Ahead of the calls (.*) the interface says: (.*)\\.").matcher(document);
+        int parts = 0;
+        while (said.find()) {
+            parts++;
+            int from = Math.max(0, text.indexOf("    // " + said.group(2) + "\n"));
+            DUE.holds("the source says " + said.group(2), from > 0);
+            int to = text.indexOf("    // ----", from + 1);
+            for (String call : said.group(1).split(", ")) {
+                Matcher at = Pattern.compile("public \\w+ " + call.replace("`", "") + "\\(").matcher(text);
+                DUE.holds(call + " stands behind " + said.group(2), at.find(from) && at.start() < to);
+            }
+        }
+        DUE.due("parts of the face", 5, parts);
     }
 
     private static void face() {
@@ -64,22 +105,31 @@ public final class LanguageTest {
         Constructor<?>[] made = c.getDeclaredConstructors();
         DUE.holds("one constructor", made.length == 1 && made[0].getParameterCount() == 0
                 && Modifier.isPublic(made[0].getModifiers()));
-        constants(c);
+        constants();
     }
 
-    private static void constants(Class<?> c) {
+    /** Their values are read from the class itself: a test's own code has them as they were when it was compiled. */
+    static void constants() {
         Set<String> open = new TreeSet<>();
-        for (Field f : c.getDeclaredFields()) {
+        for (Field f : KingsInches.class.getDeclaredFields()) {
             int how = f.getModifiers();
             DUE.holds(f + " is final, if static", !Modifier.isStatic(how) || Modifier.isFinal(how));
             if (!Modifier.isPrivate(how) && !f.isSynthetic()) {
                 open.add(f.getName());
                 DUE.holds(f + " is a constant", how == (Modifier.PUBLIC | Modifier.STATIC | Modifier.FINAL));
                 DUE.holds(f + " has its type", f.getType() == (f.getName().equals("LOST") ? long.class : int.class));
+                DUE.due(f.getName(), CONSTANTS.getOrDefault(f.getName(), 0L), valueOf(f));
             }
         }
-        DUE.holds("the document's constants and no other: " + open,
-                open.equals(new TreeSet<>(Arrays.asList(CONSTANTS))));
+        DUE.holds("the document's constants and no other: " + open, open.equals(new TreeSet<>(CONSTANTS.keySet())));
+    }
+
+    private static long valueOf(Field f) {
+        try {
+            return f.getLong(null);
+        } catch (IllegalAccessException e) {
+            throw new IllegalStateException(e);
+        }
     }
 
     private static void classesInside() {

@@ -44,7 +44,7 @@ public final class LaterRefusalsTest {
         }
     }
 
-    private static void fullPad() {
+    static void fullPad() {
         DUE.sentence("Promise 5: OUTSIDE; FULL");
         Consumer<KingsInches> sixty = x -> Due.say(x, "*:1;".repeat(15));
         refused(KingsInches.FULL, sixty, Row.whole("say", Row.of(33), Row.of(33, 126)));
@@ -54,7 +54,7 @@ public final class LaterRefusalsTest {
         DUE.due("the 61st sign", KingsInches.FULL, x.say(33));
     }
 
-    private static void faults() {
+    static void faults() {
         DUE.sentence("Promise 8: OUTSIDE; NO: there is a FAULT");
         Row asRule = Row.whole("take", Row.of(0), Row.EITHER);
         Row asGrowth = Row.whole("take", Row.of(1), Row.EITHER);
@@ -66,7 +66,7 @@ public final class LaterRefusalsTest {
         refused(KingsInches.NO, x -> Due.say(x, "14:1;"), asGrowth);
     }
 
-    private static void noParts() {
+    static void noParts() {
         DUE.sentence("Promise 12: UNKNOWN; OUTSIDE; NO");
         Consumer<KingsInches> noLeak = FULL.andThen(x -> x.way(0, 0));
         refused(KingsInches.NO, noLeak,
@@ -75,7 +75,7 @@ public final class LaterRefusalsTest {
                 Row.whole("misfit", Row.of(4, 0, 1, 63), Row.BOOK, Row.HEIGHT, Row.WIDTH, Row.HEIGHT));
     }
 
-    private static void nobodyAtTheLine() {
+    static void nobodyAtTheLine() {
         DUE.sentence("Promise 21: OUTSIDE; NO: nobody is of the line or more");
         refused(KingsInches.NO, FULL, Row.fraction("mix", Row.of(30, 34, 3, 34, 100, 0),
                 Row.HEIGHT, Row.HEIGHT, Row.WIDTH, Row.HEIGHT, Row.SHARE, Row.EITHER));
@@ -102,7 +102,7 @@ public final class LaterRefusalsTest {
     }
 
     /** Of a full object BOOK 1 is of KIND 1, BOOK 2 of KIND 2, others of KIND 0. */
-    private static void otherKinds() {
+    static void otherKinds() {
         DUE.sentence("Promise 26: UNKNOWN, OUTSIDE, STATE: its KIND is not 2");
         refused(KingsInches.STATE, FULL, about(0));
         refused(KingsInches.STATE, FULL, about(1));
@@ -120,7 +120,7 @@ public final class LaterRefusalsTest {
         DUE.holds("beside one without MEN", x.beside(1, 0, 3, 1) > 0);
     }
 
-    private static void notKept() {
+    static void notKept() {
         DUE.sentence("Promise 33: OUTSIDE; STATE: it was not");
         refused(KingsInches.STATE, x -> { }, Row.whole("restore", Row.of(0), Row.EITHER));
         refused(KingsInches.STATE, x -> { }, Row.whole("restore", Row.of(1), Row.EITHER));

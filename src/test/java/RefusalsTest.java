@@ -65,16 +65,29 @@ public final class RefusalsTest {
     public static void main(String[] args) {
         DUE.holds("what is now and both IMAGES look different", Set.of(SHOWN[0], SHOWN[1], SHOWN[2]).size() == 3);
         for (Row row : ROWS) {
-            taken(row, row.numbers());
-            for (int place = 0; place < row.numbers().length; place++) {
-                if (row.tries(place)) {
-                    bothSides(row, place);
-                    withAnother(row, place);
-                }
-            }
+            refusalsOf(row);
         }
         everyCall();
         DUE.end();
+    }
+
+    /** All rows of one call. */
+    static void refusalsOf(String call) {
+        for (Row row : ROWS) {
+            if (row.call().equals(call)) {
+                refusalsOf(row);
+            }
+        }
+    }
+
+    private static void refusalsOf(Row row) {
+        taken(row, row.numbers());
+        for (int place = 0; place < row.numbers().length; place++) {
+            if (row.tries(place)) {
+                bothSides(row, place);
+                withAnother(row, place);
+            }
+        }
     }
 
     private static void bothSides(Row row, int place) {
